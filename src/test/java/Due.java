@@ -1,0 +1,33 @@
+/** Counts the answers that are not the ones due, and ends a test. */
+final class Due {
+    private final String test;
+    private int looked = 0;
+    private int wrong = 0;
+
+    Due(String test) {
+        this.test = test;
+    }
+
+    void is(String call, long got, long want) {
+        looked++;
+        if (got != want) {
+            wrong++;
+            System.out.println(test + ": " + call + " answered " + got + ", due is " + want);
+        }
+    }
+
+    void holds(String what, boolean so) {
+        looked++;
+        if (!so) {
+            wrong++;
+            System.out.println(test + ": not so: " + what);
+        }
+    }
+
+    void end() {
+        System.out.println(test + ": " + looked + " answers, " + wrong + " wrong");
+        if (wrong != 0 || looked == 0) {
+            System.exit(1);
+        }
+    }
+}
