@@ -1,0 +1,192 @@
+import java.util.ArrayDeque;
+import java.util.ArrayList;
+import java.util.Deque;
+import java.util.List;
+import java.util.Random;
+
+/** Promises 25 to 27: silos. */
+public final class SiloTest {
+    private static final Due DUE = new Due("SiloTest");
+
+    public static void main(String[] args) {
+        bagTakesTheEldestFirst();
+        bagRefuses();
+        lotsStayTold();
+        bagsMayBeLarge();
+        lotsOfManySteps();
+        bagsAreAsDrawnFromQueues();
+        DUE.end();
+    }
+
+    /** Unburnt LOTS in SILO 0: STEP 4 5 tons, STEP 5 7 tons, STEP 7 11 tons, STEP 8 900 tons. */
+    private static KilnLine withFourLots() {
+        KilnLine x = new KilnLine();
+        int[] feeds = {5, 7, 0, 11, 900, 0, 0, 0, 0};
+        for (int feed : feeds) {
+            x.step(feed, 0, 100);
+        }
+        return x;
+    }
+
+    private static void bagTakesTheEldestFirst() {
+        KilnLine x = withFourLots();
+        silo(x, 923, 4);
+        DUE.is("bag(0, 5)", x.bag(0, 5), 1);
+        lots(x, 4, 5);
+        silo(x, 918, 3);
+        DUE.is("bag(0, 8)", x.bag(0, 8), 2);
+        lots(x, 5, 7, 7, 1);
+        silo(x, 910, 2);
+        DUE.is("bag(0, 3)", x.bag(0, 3), 1);
+        lots(x, 7, 3);
+        silo(x, 907, 2);
+        DUE.is("bag(0, 907)", x.bag(0, 907), 2);
+        lots(x, 7, 7, 8, 900);
+        silo(x, 0, 0);
+        DUE.is("bag(0, 1)", x.bag(0, 1), KilnLine.STATE);
+        DUE.is("silo(1, 0)", x.silo(1, 0), 0);
+        DUE.is("silo(2, 1)", x.silo(2, 1), 0);
+    }
+
+    private static void bagRefuses() {
+        KilnLine x = withFourLots();
+        DUE.is("bag(0, 924)", x.bag(0, 924), KilnLine.STATE);
+        DUE.is("bag(1, 1)", x.bag(1, 1), KilnLine.STATE);
+        DUE.is("bag(0, 0)", x.bag(0, 0), KilnLine.BAD);
+        DUE.is("bag(0, -1)", x.bag(0, -1), KilnLine.BAD);
+        DUE.is("bag(0, 10000)", x.bag(0, 10000), KilnLine.STATE);
+        DUE.is("bag(0, 10001)", x.bag(0, 10001), KilnLine.BAD);
+        DUE.is("bag(-1, 1)", x.bag(-1, 1), KilnLine.BAD);
+        DUE.is("bag(3, 1)", x.bag(3, 1), KilnLine.BAD);
+        DUE.is("silo(-1, 0)", x.silo(-1, 0), KilnLine.BAD);
+        DUE.is("silo(3, 0)", x.silo(3, 0), KilnLine.BAD);
+        DUE.is("silo(0, -1)", x.silo(0, -1), KilnLine.BAD);
+        DUE.is("silo(0, 2)", x.silo(0, 2), KilnLine.BAD);
+        DUE.is("lot(0, 0)", x.lot(0, 0), KilnLine.NONE);
+        silo(x, 923, 4);
+        DUE.is("finding()", x.finding(), 0);
+    }
+
+    private static void lotsStayTold() {
+        KilnLine x = withFourLots();
+        x.bag(0, 13);
+        x.bag(0, 5000);
+        x.bag(0, 0);
+        lots(x, 4, 5, 5, 7, 7, 1);
+        x.step(0, 0, 100);
+        lots(x, 4, 5, 5, 7, 7, 1);
+        DUE.is("lot(3, 0)", x.lot(3, 0), KilnLine.NONE);
+        DUE.is("lot(3, 1)", x.lot(3, 1), KilnLine.NONE);
+        DUE.is("lot(-1, 0)", x.lot(-1, 0), KilnLine.NONE);
+        DUE.is("lot(500, 1)", x.lot(500, 1), KilnLine.NONE);
+        DUE.is("lot(MIN, 0)", x.lot(Integer.MIN_VALUE, 0), KilnLine.NONE);
+        DUE.is("lot(0, 2)", x.lot(0, 2), KilnLine.BAD);
+        DUE.is("lot(0, -1)", x.lot(0, -1), KilnLine.BAD);
+        DUE.is("lot(9, 2): BAD ahead of NONE", x.lot(9, 2), KilnLine.BAD);
+        DUE.is("bag(0, 1)", x.bag(0, 1), 1);
+        lots(x, 7, 1);
+    }
+
+    private static void bagsMayBeLarge() {
+        KilnLine x = new KilnLine();
+        for (int i = 0; i < 15; i++) {
+            x.step(1000, 0, 100);
+        }
+        silo(x, 11000, 11);
+        DUE.is("bag(0, 10001)", x.bag(0, 10001), KilnLine.BAD);
+        DUE.is("bag(0, 10000)", x.bag(0, 10000), 10);
+        silo(x, 1000, 1);
+        DUE.is("lot(9, 0)", x.lot(9, 0), 13);
+    }
+
+    private static void lotsOfManySteps() {
+        KilnLine x = new KilnLine();
+        for (int i = 0; i < 500; i++) {
+            x.step(2, 0, 100);
+        }
+        silo(x, 992, 496);
+        DUE.is("bag(0, 991)", x.bag(0, 991), 496);
+        DUE.is("lot(0, 0)", x.lot(0, 0), 4);
+        DUE.is("lot(495, 0)", x.lot(495, 0), 499);
+        DUE.is("lot(495, 1)", x.lot(495, 1), 1);
+        silo(x, 1, 1);
+    }
+
+    /** Queues of {STEP, tons} against runs of any steps and BAGS, with LOTS in all SILOS. */
+    private static void bagsAreAsDrawnFromQueues() {
+        int[] bags = new int[3];
+        for (int seed = 0; seed < 20; seed++) {
+            Random random = new Random(seed);
+            KilnLine x = new KilnLine();
+            List<Deque<int[]>> queues = new ArrayList<>();
+            for (int s = 0; s < 3; s++) {
+                queues.add(new ArrayDeque<>());
+            }
+            for (int step = 0; step < 200; step++) {
+                x.start();
+                x.step(random.nextInt(100), random.nextInt(4) == 0 ? random.nextInt(40000) : 0, 20 + random.nextInt(60));
+                if (x.out(0) > 0) {
+                    queues.get(x.out(3)).add(new int[] {step, x.out(0)});
+                }
+                int s = random.nextInt(3);
+                int n = 1 + random.nextInt(120);
+                if (drawAndCompare(x, queues.get(s), s, n)) {
+                    bags[s]++;
+                }
+            }
+        }
+        for (int s = 0; s < 3; s++) {
+            DUE.holds("BAGS of SILO " + s + " were filled", bags[s] > 10);
+        }
+    }
+
+    private static boolean drawAndCompare(KilnLine x, Deque<int[]> queue, int s, int n) {
+        int tons = 0;
+        for (int[] lot : queue) {
+            tons += lot[1];
+        }
+        DUE.is("silo(s, 0)", x.silo(s, 0), tons);
+        DUE.is("silo(s, 1)", x.silo(s, 1), queue.size());
+        if (tons < n) {
+            DUE.is("bag(s, n)", x.bag(s, n), KilnLine.STATE);
+            return false;
+        }
+        List<int[]> drawn = draw(queue, n);
+        DUE.is("bag(s, n)", x.bag(s, n), drawn.size());
+        for (int i = 0; i < drawn.size(); i++) {
+            DUE.is("lot(i, 0)", x.lot(i, 0), drawn.get(i)[0]);
+            DUE.is("lot(i, 1)", x.lot(i, 1), drawn.get(i)[1]);
+        }
+        DUE.is("lot(behind the last, 0)", x.lot(drawn.size(), 0), KilnLine.NONE);
+        return true;
+    }
+
+    private static List<int[]> draw(Deque<int[]> queue, int n) {
+        List<int[]> drawn = new ArrayList<>();
+        int lacking = n;
+        while (lacking > 0) {
+            int[] lot = queue.peek();
+            int taken = Math.min(lacking, lot[1]);
+            drawn.add(new int[] {lot[0], taken});
+            lot[1] -= taken;
+            lacking -= taken;
+            if (lot[1] == 0) {
+                queue.remove();
+            }
+        }
+        return drawn;
+    }
+
+    private static void silo(KilnLine x, int tons, int lots) {
+        DUE.is("silo(0, 0)", x.silo(0, 0), tons);
+        DUE.is("silo(0, 1)", x.silo(0, 1), lots);
+    }
+
+    private static void lots(KilnLine x, int... due) {
+        for (int i = 0; i < due.length / 2; i++) {
+            DUE.is("lot(" + i + ", 0)", x.lot(i, 0), due[2 * i]);
+            DUE.is("lot(" + i + ", 1)", x.lot(i, 1), due[2 * i + 1]);
+        }
+        DUE.is("lot behind the last", x.lot(due.length / 2, 0), KilnLine.NONE);
+    }
+}
