@@ -396,7 +396,7 @@ public final class KilnLine {
         return 31 * h + v;
     }
 
-    /** Of a from 0 on and b from 1 on; 64 rounds are more than any two ints need. */
+    /** Of a from 0 on and b from 1 on; 64 rounds are more than any two ints need. At least 1, as it divides. */
     private static int commonDivisor(int a, int b) {
         int high = a;
         int low = b;
@@ -405,7 +405,7 @@ public final class KilnLine {
             low = high;
             high = rest;
         }
-        return low;
+        return Math.max(low, 1);
     }
 
     /** The FINDINGS that were answered. */

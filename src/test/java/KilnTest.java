@@ -8,6 +8,7 @@ public final class KilnTest {
         gasGoesUpTheZones();
         coolingGivesATenthFirst();
         stuffGoesDownTheZones();
+        greatHeatsAreHandedOnWhole();
         gradesAreByBurn();
         tooHotIsAboveTwoHundredATon();
         tooMuchIsAboveTwoThousand();
@@ -41,7 +42,7 @@ public final class KilnTest {
         DUE.is("out(6)", y.out(6), 28125);
     }
 
-    /** 10 tons in ZONE 3 with a HEAT of half the fuel, at 6 calls. */
+    /** 10 tons in ZONE 3 with a HEAT of half the fuel, behind 5 STEPS. */
     private static KilnLine withTenTonsAhead(int fuel) {
         KilnLine x = new KilnLine();
         x.step(10, 0, 100);
@@ -91,6 +92,26 @@ public final class KilnTest {
         x.step(0, 0, 0);
         stuffs(x, 1, 14, 14, 1);
         heats(x, 2 + 2, 48 + 3, 285 + 12, 216);
+    }
+
+    /** HEAT times tons is more than an int holds here. */
+    private static void greatHeatsAreHandedOnWhole() {
+        KilnLine x = new KilnLine();
+        for (int i = 0; i < 50; i++) {
+            DUE.is("step(0, 100000, 0)", x.step(0, 100000, 0), 4);
+        }
+        heats(x, 50 * 9375, 50 * 12500, 50 * 50000, 0);
+        DUE.is("step(1000, 0, 0)", x.step(1000, 0, 0), 1);
+        x.step(0, 0, 100);
+        heats(x, 0, 50 * 21875, 50 * 50000, 0);
+        x.step(0, 0, 100);
+        heats(x, 0, 0, 50 * 71875, 0);
+        DUE.is("warmth(2, 1)", x.warmth(2, 1), 3593);
+        x.step(0, 0, 100);
+        heats(x, 0, 0, 0, 50 * 71875);
+        x.step(0, 0, 100);
+        DUE.is("out(1)", x.out(1), 45 * 71875);
+        DUE.is("out(2)", x.out(2), 3234);
     }
 
     private static void gradesAreByBurn() {

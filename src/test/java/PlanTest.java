@@ -92,6 +92,11 @@ public final class PlanTest {
         copied(0, 7, 1, 7, 0);
         copied(0, 24, 1, 24, 0);
         copied(0, 24, 0, 0, 0);
+        KilnLine x = new KilnLine();
+        x.day(6);
+        x.price(6, 2, 22);
+        DUE.is("copy(6, 2, 6, 3, 1)", x.copy(6, 2, 6, 3, 1), 1);
+        DUE.is("price(6, 3, 0)", x.price(6, 3, 0), 22);
     }
 
     private static void copied(int d, int i, int e, int j, int n) {
