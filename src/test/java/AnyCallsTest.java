@@ -20,7 +20,7 @@ public final class AnyCallsTest {
     public static void main(String[] args) throws IllegalAccessException {
         List<Method> calls = callsOfTheFace();
         DUE.holds("the face has calls", calls.size() == 40 - 1);
-        for (int seed = 0; seed < 150; seed++) {
+        for (int seed = 0; seed < 1500; seed++) {
             run(calls, new Random(seed), seed);
         }
         DUE.end();
@@ -37,24 +37,26 @@ public final class AnyCallsTest {
         return calls;
     }
 
-    /** Goes beyond 512 calls, since no call may throw then either. */
+    /** What is answered behind 512 calls is free, but no call may throw then either. */
     private static void run(List<Method> calls, Random random, int seed) throws IllegalAccessException {
         KilnLine x = new KilnLine();
-        long bagged = 0;
         Method favourite = calls.get(random.nextInt(calls.size()));
+        int ahead = random.nextInt(400);
+        long bagged = 0;
         for (int i = 0; i < 900; i++) {
             Method m = random.nextInt(3) == 0 ? favourite : calls.get(random.nextInt(calls.size()));
             Object[] numbers = numbersFor(m, random);
-            List<Long> before = told(x);
+            List<Long> before = i == ahead ? told(x) : null;
             long answer = answerOf(x, m, numbers, seed);
-            if (m.getReturnType() == int.class && answer < 0) {
-                DUE.holds(m.getName() + " was refused, seed " + seed, before.equals(told(x)));
-            }
             if (m.getName().equals("bag") && answer > 0) {
                 bagged += (Integer) numbers[1];
             }
+            if (i == ahead) {
+                boolean refused = m.getReturnType() == int.class && answer < 0;
+                DUE.holds(m.getName() + " was refused, seed " + seed, !refused || before.equals(told(x)));
+                nothingIsLost(x, bagged, seed);
+            }
         }
-        nothingIsLost(x, bagged, seed);
     }
 
     private static Object[] numbersFor(Method m, Random random) {

@@ -1,6 +1,7 @@
 /** Counts the answers that are not the ones due, and ends a test. */
 final class Due {
     private final String test;
+    private String sentence = "";
     private int looked = 0;
     private int wrong = 0;
 
@@ -8,11 +9,16 @@ final class Due {
         this.test = test;
     }
 
+    /** Names the sentence of the document by which the answers behind this call are due. */
+    void by(String words) {
+        sentence = " (" + words + ")";
+    }
+
     void is(String call, long got, long want) {
         looked++;
         if (got != want) {
             wrong++;
-            System.out.println(test + ": " + call + " answered " + got + ", due is " + want);
+            System.out.println(test + sentence + ": " + call + " answered " + got + ", due is " + want);
         }
     }
 
@@ -20,7 +26,7 @@ final class Due {
         looked++;
         if (!so) {
             wrong++;
-            System.out.println(test + ": not so: " + what);
+            System.out.println(test + sentence + ": not so: " + what);
         }
     }
 

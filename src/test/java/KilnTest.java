@@ -337,24 +337,29 @@ public final class KilnTest {
         DUE.is("first()", x.first(), KilnLine.NONE);
     }
 
-    /** The KILN once more, straight from the document's text, against runs of any steps. */
+    /**
+     * The KILN once more, straight from the document's text, against runs of any steps. All is
+     * compared now and then only, as nothing is promised of an object behind 512 calls.
+     */
     private static void runsAreAsReckonedPlainly() {
         boolean[] causes = new boolean[5];
         boolean[] grades = new boolean[3];
-        for (int seed = 0; seed < 60; seed++) {
+        for (int seed = 0; seed < 300; seed++) {
             Random random = new Random(seed);
             KilnLine x = new KilnLine();
             PlainKiln plain = new PlainKiln();
-            for (int i = 0; i < 300; i++) {
+            for (int i = 0; i < 150; i++) {
                 int feed = random.nextInt(random.nextBoolean() ? 1001 : 200);
                 int fuel = random.nextInt(4) == 0 ? 0 : random.nextInt(random.nextBoolean() ? 100001 : 20000);
                 int speed = random.nextInt(101);
                 plain.step(feed, fuel, speed);
                 DUE.is("step, seed " + seed, x.step(feed, fuel, speed), plain.cause);
-                compare(x, plain);
+                if (i % 15 == seed % 15) {
+                    compare(x, plain);
+                }
                 causes[plain.cause] = true;
                 grades[plain.grade] |= plain.tons > 0;
-                if (random.nextInt(8) == 0) {
+                if (i % 6 == 0 && random.nextBoolean()) {
                     DUE.is("start()", x.start(), plain.stopped ? 1 : 0);
                     plain.stopped = false;
                 }

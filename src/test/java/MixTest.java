@@ -1,3 +1,7 @@
+import java.util.ArrayList;
+import java.util.List;
+import java.util.Random;
+
 /** Promises 8 to 17: the mix. */
 public final class MixTest {
     private static final Due DUE = new Due("MixTest");
@@ -21,6 +25,7 @@ public final class MixTest {
         aimAndGainAreAsTheyAreWhenRead();
         sampleIsOfItsOwnHour();
         hourIsFullAt200();
+        runsAreAsReckonedPlainly();
         DUE.end();
     }
 
@@ -306,6 +311,119 @@ public final class MixTest {
     private static void stockAll(KilnLine x, int lime, int sand, int clay) {
         for (int s = 0; s <= 3; s++) {
             x.stock(s, lime, sand, clay);
+        }
+    }
+
+    /** THE MIX once more, straight from the document's text, against runs of any calls. */
+    private static void runsAreAsReckonedPlainly() {
+        boolean[] answers = new boolean[4];
+        int passed = 0;
+        for (int seed = 0; seed < 300; seed++) {
+            Random random = new Random(seed);
+            KilnLine x = new KilnLine();
+            PlainMix plain = new PlainMix();
+            // 6 calls an HOUR at most: nothing is promised behind 512 calls.
+            for (int h = 0; h < 80; h++) {
+                change(x, plain, random);
+                boolean lost = random.nextInt(4) == 0;
+                int due = plain.hour(lost);
+                DUE.is("hour " + h + ", seed " + seed, x.hour(lost), due);
+                DUE.is("read(), seed " + seed, x.read(), plain.read);
+                DUE.is("passed(), seed " + seed, x.passed(), plain.passed());
+                DUE.is("shareOf(0), seed " + seed, x.shareOf(0), plain.shares[0]);
+                DUE.is("shareOf(1), seed " + seed, x.shareOf(1), plain.shares[1]);
+                answers[due] = true;
+            }
+            passed += plain.passed();
+        }
+        for (int answer = 0; answer < 4; answer++) {
+            DUE.holds("the runs had the answer " + answer, answers[answer]);
+        }
+        DUE.holds("SAMPLES were passed over", passed > 100);
+    }
+
+    private static void change(KilnLine x, PlainMix plain, Random random) {
+        int a = random.nextInt(random.nextBoolean() ? 1001 : 50);
+        int b = random.nextInt(1001 - a);
+        int c = random.nextInt(1001 - a - b);
+        switch (random.nextInt(8)) {
+            case 0 -> {
+                int s = random.nextInt(4);
+                int[] parts = random.nextInt(3) == 0 ? new int[] {1000, 0, 0} : new int[] {a, b, c};
+                x.stock(s, parts[0], parts[1], parts[2]);
+                plain.parts[s] = new int[] {parts[0], parts[1], parts[2], 1000 - parts[0] - parts[1] - parts[2]};
+            }
+            case 1 -> {
+                x.share(a, b, c);
+                plain.shares = new int[] {a, b, c, 1000 - a - b - c};
+            }
+            case 2 -> {
+                plain.aimUpper = 1 + random.nextInt(1000);
+                plain.aimLower = 1 + random.nextInt(random.nextBoolean() ? 1000 : 10);
+                x.aim(plain.aimUpper, plain.aimLower);
+            }
+            case 3, 4 -> {
+                plain.delay = random.nextInt(6);
+                plain.gain = random.nextInt(101);
+                x.rule(plain.delay, plain.gain);
+            }
+            default -> DUE.is("count(1)", x.count(1), plain.samples.size());
+        }
+    }
+
+    private static final class PlainMix {
+        private final int[][] parts = {{250, 250, 250, 250}, {250, 250, 250, 250}, {250, 250, 250, 250}, {250, 250, 250, 250}};
+        /** {HOUR in which it comes, upper, lower, 1 if LOST, 1 if read, 1 if read as the youngest} */
+        private final List<long[]> samples = new ArrayList<>();
+        private int[] shares = {250, 250, 250, 250};
+        private int aimUpper = 3;
+        private int aimLower = 1;
+        private int delay = 1;
+        private int gain = 10;
+        private int read = KilnLine.NONE;
+
+        private long part(int k) {
+            long sum = 0;
+            for (int s = 0; s < 4; s++) {
+                sum += (long) shares[s] * parts[s][k];
+            }
+            return sum;
+        }
+
+        int hour(boolean lost) {
+            int now = samples.size();
+            long lower = 28 * part(1) + 12 * part(2) + 7 * part(3);
+            samples.add(new long[] {now + delay, 10 * part(0), lower, lost ? 1 : 0, 0, 0});
+            read = KilnLine.NONE;
+            for (int h = now; h >= 0; h--) {
+                long[] sample = samples.get(h);
+                if (sample[3] == 0 && sample[0] <= now && sample[4] == 0) {
+                    sample[4] = 1;
+                    sample[5] = read == KilnLine.NONE ? 1 : 0;
+                    read = read == KilnLine.NONE ? h : read;
+                }
+            }
+            return read == KilnLine.NONE ? 0 : correct(samples.get(read));
+        }
+
+        private int correct(long[] sample) {
+            long less = sample[1] * aimLower - sample[2] * aimUpper;
+            if (sample[2] == 0 || less == 0) {
+                return 1;
+            }
+            int from = less < 0 ? 1 : 0;
+            int moved = Math.min(gain, shares[from]);
+            shares[from] -= moved;
+            shares[1 - from] += moved;
+            return moved == 0 ? 1 : less < 0 ? 2 : 3;
+        }
+
+        int passed() {
+            int sum = 0;
+            for (long[] sample : samples) {
+                sum += sample[3] == 0 && sample[0] < samples.size() && sample[5] == 0 ? 1 : 0;
+            }
+            return sum;
         }
     }
 }

@@ -115,14 +115,16 @@ public final class SiloTest {
     /** Queues of {STEP, tons} against runs of any steps and BAGS, with LOTS in all SILOS. */
     private static void bagsAreAsDrawnFromQueues() {
         int[] bags = new int[3];
-        for (int seed = 0; seed < 20; seed++) {
+        for (int seed = 0; seed < 200; seed++) {
             Random random = new Random(seed);
             KilnLine x = new KilnLine();
             List<Deque<int[]>> queues = new ArrayList<>();
             for (int s = 0; s < 3; s++) {
                 queues.add(new ArrayDeque<>());
             }
-            for (int step = 0; step < 200; step++) {
+            // A STEP with its BAG takes 7 calls and two for each LOT: nothing is promised behind 512 calls.
+            int calls = 0;
+            for (int step = 0; calls < 450; step++) {
                 x.start();
                 x.step(random.nextInt(100), random.nextInt(4) == 0 ? random.nextInt(40000) : 0, 20 + random.nextInt(60));
                 if (x.out(0) > 0) {
@@ -130,9 +132,12 @@ public final class SiloTest {
                 }
                 int s = random.nextInt(3);
                 int n = 1 + random.nextInt(120);
+                int ahead = queues.get(s).size();
                 if (drawAndCompare(x, queues.get(s), s, n)) {
                     bags[s]++;
+                    calls += 2 * (ahead - queues.get(s).size() + 1);
                 }
+                calls += 8;
             }
         }
         for (int s = 0; s < 3; s++) {

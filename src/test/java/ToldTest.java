@@ -140,7 +140,7 @@ public final class ToldTest {
         fold.add(7, -1);
         fold.add(24, 0);
         fold.add(5, 0);
-        DUE.is("digest()", new KilnLine().digest(), fold.h);
+        DUE.is("digest()", new KilnLine().digest(), fold.told());
     }
 
     private static void digestOfAUsedObject() {
@@ -176,8 +176,8 @@ public final class ToldTest {
         fold.all(55);
         fold.add(18, 0);
         fold.all(1, 1, 6, 1, 1);
-        DUE.is("digest()", x.digest(), fold.h);
-        DUE.is("digest() again", x.digest(), fold.h);
+        DUE.is("digest()", x.digest(), fold.told());
+        DUE.is("digest() again", x.digest(), fold.told());
     }
 
     private static void digestLooksAtEachNumber() {
@@ -197,21 +197,5 @@ public final class ToldTest {
         told.warmth(0, 1);
         told.plan(0, 1);
         DUE.is("digest() does not tell of these", told.digest(), before);
-    }
-
-    private static final class Fold {
-        private long h = 17;
-
-        void add(int times, long v) {
-            for (int i = 0; i < times; i++) {
-                h = 31 * h + v;
-            }
-        }
-
-        void all(long... numbers) {
-            for (long v : numbers) {
-                add(1, v);
-            }
-        }
     }
 }
