@@ -86,18 +86,6 @@ public final class KilnBoundsTest {
         return x;
     }
 
-    private static void stuffs(KilnLine x, int... due) {
-        for (int z = 0; z < due.length; z++) {
-            DUE.is("zone(" + z + ", 0)", x.zone(z, 0), due[z]);
-        }
-    }
-
-    private static void heats(KilnLine x, int... due) {
-        for (int z = 0; z < due.length; z++) {
-            DUE.is("zone(" + z + ", 1)", x.zone(z, 1), due[z]);
-        }
-    }
-
     private static void caused(KilnLine x, int cause, int zone) {
         DUE.is("out(4)", x.out(4), cause);
         DUE.is("out(5)", x.out(5), zone);
@@ -130,24 +118,24 @@ public final class KilnBoundsTest {
     private static void feedIs0To1000() {
         DUE.by("feed F (0 .. 1000)");
         BUSY.range("step(%d, 0, 0)", (x, feed) -> x.step(feed, 0, 0), 0, 0, 1000, 0);
-        stuffs(BUSY.taken("step(0, 0, 0)", x -> x.step(0, 0, 0), 0), 10, 23, 15, 4);
-        stuffs(BUSY.taken("step(1000, 0, 0)", x -> x.step(1000, 0, 0), 0), 1010, 23, 15, 4);
+        DUE.stuffs(BUSY.taken("step(0, 0, 0)", x -> x.step(0, 0, 0), 0), 10, 23, 15, 4);
+        DUE.stuffs(BUSY.taken("step(1000, 0, 0)", x -> x.step(1000, 0, 0), 0), 1010, 23, 15, 4);
     }
 
     private static void fuelIs0To100000() {
         DUE.by("fuel Q (0 .. 100000)");
         BUSY.range("step(0, %d, 0)", (x, fuel) -> x.step(0, fuel, 0), 0, 0, 100000, 1);
         // 16 come from ZONE 3
-        heats(BUSY.taken("step(0, 0, 0)", x -> x.step(0, 0, 0), 0), 19, 102, 190, 152);
-        heats(NEW.taken("step(0, 100000, 0)", x -> x.step(0, 100000, 0), 4), 9375, 12500, 50000, 0);
+        DUE.heats(BUSY.taken("step(0, 0, 0)", x -> x.step(0, 0, 0), 0), 19, 102, 190, 152);
+        DUE.heats(NEW.taken("step(0, 100000, 0)", x -> x.step(0, 100000, 0), 4), 9375, 12500, 50000, 0);
     }
 
     private static void speedIs0To100() {
         DUE.by("speed v (0 .. 100)");
         BUSY.range("step(0, 0, %d)", (x, speed) -> x.step(0, 0, speed), 0, 0, 100, 0);
         KilnLine x = BUSY.taken("step(0, 0, 100)", y -> y.step(0, 0, 100), 0);
-        stuffs(x, 0, 10, 23, 15);
-        heats(x, 0, 19, 102, 190);
+        DUE.stuffs(x, 0, 10, 23, 15);
+        DUE.heats(x, 0, 19, 102, 190);
         DUE.is("out(0)", x.out(0), 4);
         DUE.is("out(1)", x.out(1), 152);
     }
@@ -156,7 +144,7 @@ public final class KilnBoundsTest {
         DUE.by("STOPPED: Q counts as 0");
         for (int fuel : new int[] {0, 1, 100000}) {
             KilnLine x = STOPPED.taken("step(0, " + fuel + ", 0)", y -> y.step(0, fuel, 0), 1);
-            heats(x, 201, 267, 1071, 0);
+            DUE.heats(x, 201, 267, 1071, 0);
             DUE.is("out(6)", x.out(6), 0);
             DUE.is("sum(1)", x.sum(1), 1);
             DUE.is("asked()", x.asked(), 2142);
@@ -191,7 +179,7 @@ public final class KilnBoundsTest {
         for (int[] g : gas) {
             KilnLine x = new KilnLine();
             x.step(0, g[0], 100);
-            heats(x, g[3], g[2], g[1], 0);
+            DUE.heats(x, g[3], g[2], g[1], 0);
             DUE.is("out(6) of " + g[0], x.out(6), g[4]);
         }
     }
@@ -220,7 +208,7 @@ public final class KilnBoundsTest {
             KilnLine x = tonsIn(2, 10);
             x.step(0, 133, 0);
             x.step(0, 0, h[0]);
-            stuffs(x, 0, 0, 10 - h[1], h[1]);
+            DUE.stuffs(x, 0, 0, 10 - h[1], h[1]);
             DUE.is("zone(2, 1) at speed " + h[0], x.zone(2, 1), 66 - h[2]);
             DUE.is("zone(3, 1) at speed " + h[0], x.zone(3, 1), h[2]);
         }
@@ -230,14 +218,14 @@ public final class KilnBoundsTest {
         DUE.by("no STUFF: none");
         KilnLine x = new KilnLine();
         x.step(0, 800, 100);
-        heats(x, 75, 100, 400, 0);
+        DUE.heats(x, 75, 100, 400, 0);
         x.step(0, 0, 100);
-        heats(x, 75, 100, 400, 0);
+        DUE.heats(x, 75, 100, 400, 0);
         DUE.is("out(1)", x.out(1), 0);
         // One STEP later there is STUFF in ZONE 0, which takes all HEAT along.
         x.step(1, 0, 0);
         x.step(0, 0, 100);
-        heats(x, 0, 175, 400, 0);
+        DUE.heats(x, 0, 175, 400, 0);
     }
 
     private static void allIsAsItWasAhead() {
@@ -246,9 +234,9 @@ public final class KilnBoundsTest {
         for (int feed = 1; feed <= 4; feed++) {
             x.step(feed, 0, 100);
         }
-        stuffs(x, 4, 3, 2, 1);
+        DUE.stuffs(x, 4, 3, 2, 1);
         DUE.is("step(5, 0, 100)", x.step(5, 0, 100), 3);
-        stuffs(x, 5, 4, 3, 2);
+        DUE.stuffs(x, 5, 4, 3, 2);
         DUE.is("out(0)", x.out(0), 1);
     }
 
@@ -256,14 +244,14 @@ public final class KilnBoundsTest {
         DUE.by("F comes to ZONE 0, without HEAT");
         for (int speed : new int[] {0, 100}) {
             KilnLine x = NEW.taken("step(1000, 0, speed)", y -> y.step(1000, 0, speed), 0);
-            stuffs(x, 1000, 0, 0, 0);
-            heats(x, 0, 0, 0, 0);
+            DUE.stuffs(x, 1000, 0, 0, 0);
+            DUE.heats(x, 0, 0, 0, 0);
         }
         KilnLine y = tonsIn(0, 10);
         y.step(10, 106, 100);
-        stuffs(y, 10, 10, 0, 0);
+        DUE.stuffs(y, 10, 10, 0, 0);
         // The 10 of HEAT that ZONE 0 took went on to ZONE 1, with 13 of its own.
-        heats(y, 0, 23, 53, 0);
+        DUE.heats(y, 0, 23, 53, 0);
     }
 
     /** HEAT times tons is more than an int holds, and so it is with ever more of both. */
@@ -273,16 +261,16 @@ public final class KilnBoundsTest {
         for (int i = 0; i < 300; i++) {
             x.step(0, 100000, 0);
         }
-        heats(x, 300 * 9375, 300 * 12500, 300 * 50000, 0);
+        DUE.heats(x, 300 * 9375, 300 * 12500, 300 * 50000, 0);
         for (int i = 0; i < 100; i++) {
             x.step(1000, 0, 0);
         }
         DUE.is("step(0, 0, 99)", x.step(0, 0, 99), 2);
-        stuffs(x, 1000, 99000, 0, 0);
-        heats(x, 28125, 2784375 + 300 * 12500, 300 * 50000, 0);
+        DUE.stuffs(x, 1000, 99000, 0, 0);
+        DUE.heats(x, 28125, 2784375 + 300 * 12500, 300 * 50000, 0);
         DUE.is("step(0, 0, 100)", x.step(0, 0, 100), 1);
-        stuffs(x, 0, 1000, 99000, 0);
-        heats(x, 0, 28125, 2784375 + 300 * 62500, 0);
+        DUE.stuffs(x, 0, 1000, 99000, 0);
+        DUE.heats(x, 0, 28125, 2784375 + 300 * 62500, 0);
         DUE.is("warmth(2, 1)", x.warmth(2, 1), 217);
     }
 
@@ -468,7 +456,7 @@ public final class KilnBoundsTest {
             y.step(1000, 0, 0);
         }
         DUE.is("step(0, 0, 50): ZONES 0 and 1", y.step(0, 0, 50), 2);
-        stuffs(y, 2500, 2500, 0, 0);
+        DUE.stuffs(y, 2500, 2500, 0, 0);
         caused(y, 2, 0);
         DUE.is("step(0, 0, 100): ZONES 1 and 2", y.step(0, 0, 100), 2);
         caused(y, 2, 1);
@@ -644,7 +632,7 @@ public final class KilnBoundsTest {
         DUE.is("asked()", burning.asked(), 50000000);
         DUE.is("sum(4)", burning.sum(4), 1);
         DUE.is("asked()", burning.asked(), 500 * 28125);
-        heats(burning, 500 * 9375, 500 * 12500, 500 * 50000, 0);
+        DUE.heats(burning, 500 * 9375, 500 * 12500, 500 * 50000, 0);
         DUE.is("out(6)", burning.out(6), 28125);
     }
 

@@ -29,16 +29,16 @@ public final class KilnTest {
     private static void gasGoesUpTheZones() {
         KilnLine x = new KilnLine();
         DUE.is("step(100, 5000, 50)", x.step(100, 5000, 50), 4);
-        heats(x, 468, 625, 2500, 0);
-        stuffs(x, 100, 0, 0, 0);
+        DUE.heats(x, 468, 625, 2500, 0);
+        DUE.stuffs(x, 100, 0, 0, 0);
         DUE.is("out(6)", x.out(6), 1407);
         KilnLine y = new KilnLine();
         y.step(0, 7, 0);
         // half of 7 is 3; a quarter of 4 is 1; a quarter of 3 is none
-        heats(y, 0, 1, 3, 0);
+        DUE.heats(y, 0, 1, 3, 0);
         DUE.is("out(6)", y.out(6), 3);
         y.step(0, 100000, 100);
-        heats(y, 9375, 12501, 50003, 0);
+        DUE.heats(y, 9375, 12501, 50003, 0);
         DUE.is("out(6)", y.out(6), 28125);
     }
 
@@ -55,43 +55,43 @@ public final class KilnTest {
 
     private static void coolingGivesATenthFirst() {
         KilnLine x = withTenTonsAhead(1332);
-        stuffs(x, 0, 0, 0, 10);
-        heats(x, 125, 166, 0, 666);
+        DUE.stuffs(x, 0, 0, 0, 10);
+        DUE.heats(x, 125, 166, 0, 666);
         DUE.is("step(3, 0, 100)", x.step(3, 0, 100), 0);
-        stuffs(x, 3, 0, 0, 0);
+        DUE.stuffs(x, 3, 0, 0, 0);
         // 66 of gas: 33, 8 and 6 of it are taken
-        heats(x, 131, 174, 33, 0);
+        DUE.heats(x, 131, 174, 33, 0);
         DUE.is("out(0)", x.out(0), 10);
         DUE.is("out(1)", x.out(1), 600);
         DUE.is("out(6)", x.out(6), 19);
         // Without STUFF no HEAT is handed on, but the gas gets its tenth.
         KilnLine y = withTenTonsAhead(1332);
         y.step(0, 100, 0);
-        heats(y, 125 + 15, 166 + 20, 83, 600);
+        DUE.heats(y, 125 + 15, 166 + 20, 83, 600);
         DUE.is("out(6)", y.out(6), 48);
     }
 
     private static void stuffGoesDownTheZones() {
         KilnLine x = new KilnLine();
         x.step(10, 800, 33);
-        stuffs(x, 10, 0, 0, 0);
-        heats(x, 75, 100, 400, 0);
+        DUE.stuffs(x, 10, 0, 0, 0);
+        DUE.heats(x, 75, 100, 400, 0);
         x.step(20, 0, 39);
         // 3 of 10 tons, and of 75 the like: 22
-        stuffs(x, 27, 3, 0, 0);
-        heats(x, 53, 122, 400, 0);
+        DUE.stuffs(x, 27, 3, 0, 0);
+        DUE.heats(x, 53, 122, 400, 0);
         x.step(0, 0, 99);
         // 26 of 27 with 51 of 53; 2 of 3 with 81 of 122
-        stuffs(x, 1, 27, 2, 0);
-        heats(x, 2, 92, 481, 0);
+        DUE.stuffs(x, 1, 27, 2, 0);
+        DUE.heats(x, 2, 92, 481, 0);
         x.step(0, 0, 50);
-        stuffs(x, 1, 14, 14, 1);
-        heats(x, 2, 92 - 44, 481 - 240 + 44, 240);
+        DUE.stuffs(x, 1, 14, 14, 1);
+        DUE.heats(x, 2, 92 - 44, 481 - 240 + 44, 240);
         DUE.is("out(0)", x.out(0), 0);
         DUE.is("out(1)", x.out(1), 0);
         x.step(0, 0, 0);
-        stuffs(x, 1, 14, 14, 1);
-        heats(x, 2 + 2, 48 + 3, 285 + 12, 216);
+        DUE.stuffs(x, 1, 14, 14, 1);
+        DUE.heats(x, 2 + 2, 48 + 3, 285 + 12, 216);
     }
 
     /** HEAT times tons is more than an int holds here. */
@@ -100,15 +100,15 @@ public final class KilnTest {
         for (int i = 0; i < 50; i++) {
             DUE.is("step(0, 100000, 0)", x.step(0, 100000, 0), 4);
         }
-        heats(x, 50 * 9375, 50 * 12500, 50 * 50000, 0);
+        DUE.heats(x, 50 * 9375, 50 * 12500, 50 * 50000, 0);
         DUE.is("step(1000, 0, 0)", x.step(1000, 0, 0), 1);
         x.step(0, 0, 100);
-        heats(x, 0, 50 * 21875, 50 * 50000, 0);
+        DUE.heats(x, 0, 50 * 21875, 50 * 50000, 0);
         x.step(0, 0, 100);
-        heats(x, 0, 0, 50 * 71875, 0);
+        DUE.heats(x, 0, 0, 50 * 71875, 0);
         DUE.is("warmth(2, 1)", x.warmth(2, 1), 3593);
         x.step(0, 0, 100);
-        heats(x, 0, 0, 0, 50 * 71875);
+        DUE.heats(x, 0, 0, 0, 50 * 71875);
         x.step(0, 0, 100);
         DUE.is("out(1)", x.out(1), 45 * 71875);
         DUE.is("out(2)", x.out(2), 3234);
@@ -389,18 +389,6 @@ public final class KilnTest {
         for (int what = 0; what < 5; what++) {
             DUE.is("sum(what)", x.sum(what), 1);
             DUE.is("asked()", x.asked(), plain.sums[what]);
-        }
-    }
-
-    private static void stuffs(KilnLine x, int... due) {
-        for (int z = 0; z < due.length; z++) {
-            DUE.is("zone(" + z + ", 0)", x.zone(z, 0), due[z]);
-        }
-    }
-
-    private static void heats(KilnLine x, int... due) {
-        for (int z = 0; z < due.length; z++) {
-            DUE.is("zone(" + z + ", 1)", x.zone(z, 1), due[z]);
         }
     }
 

@@ -236,6 +236,11 @@ public final class MixBoundsTest {
         x.stock(3, 1, 999, 0);
         x.share(999, 0, 0);
         number(x, 5, 13999986);
+        // 999997 of lime, 3 of ore: nothing in common
+        KilnLine y = stockedAlike(1000, 0, 0);
+        y.stock(3, 997, 0, 0);
+        y.share(999, 0, 0);
+        number(y, 9999970, 21);
     }
 
     private static void number(KilnLine x, long upper, long lower) {

@@ -35,20 +35,6 @@ public final class SiloBoundsTest {
         return x;
     }
 
-    private static void silo(KilnLine x, int tons, int lots) {
-        DUE.is("silo(0, 0)", x.silo(0, 0), tons);
-        DUE.is("silo(0, 1)", x.silo(0, 1), lots);
-    }
-
-    private static void lots(KilnLine x, int... due) {
-        for (int i = 0; i < due.length / 2; i++) {
-            DUE.is("lot(" + i + ", 0)", x.lot(i, 0), due[2 * i]);
-            DUE.is("lot(" + i + ", 1)", x.lot(i, 1), due[2 * i + 1]);
-        }
-        DUE.is("lot(" + due.length / 2 + ", 0)", x.lot(due.length / 2, 0), KilnLine.NONE);
-        DUE.is("lot(" + due.length / 2 + ", 1)", x.lot(due.length / 2, 1), KilnLine.NONE);
-    }
-
     private static void silosAre0To2() {
         DUE.by("SILOS 0 .. 2");
         BUSY.range("silo(%d, 0)", (x, s) -> x.silo(s, 0), 0, 6, 2, 5);
@@ -74,15 +60,15 @@ public final class SiloBoundsTest {
         DUE.by("A BAG of n tons (1 .. 10000) of a SILO");
         LARGE.range("bag(0, %d)", (x, n) -> x.bag(0, n), 1, 1, 10000, 10);
         KilnLine x = LARGE.taken("bag(0, 1)", y -> y.bag(0, 1), 1);
-        silo(x, 10999, 11);
-        lots(x, 4, 1);
-        silo(LARGE.taken("bag(0, 10000)", y -> y.bag(0, 10000), 10), 1000, 1);
+        DUE.silo(x, 10999, 11);
+        DUE.lots(x, 4, 1);
+        DUE.silo(LARGE.taken("bag(0, 10000)", y -> y.bag(0, 10000), 10), 1000, 1);
     }
 
     private static void aBagOfAllTons() {
         DUE.by("STATE: it has not so many tons");
         KilnLine x = JUST_ENOUGH.taken("bag(0, 10000)", y -> y.bag(0, 10000), 10);
-        silo(x, 0, 0);
+        DUE.silo(x, 0, 0);
         DUE.is("bag(0, 1)", x.bag(0, 1), KilnLine.STATE);
         int[] all = {6, 3, 5};
         int[] lots = {1, 2, 1};
@@ -119,33 +105,33 @@ public final class SiloBoundsTest {
         DUE.by("of its LOTS the eldest first, in part if need be");
         KilnLine x = unburnt(3, 7);
         DUE.is("bag(0, 7)", x.bag(0, 7), 1);
-        lots(x, 4, 7);
-        silo(x, 14, 2);
+        DUE.lots(x, 4, 7);
+        DUE.silo(x, 14, 2);
         DUE.is("bag(0, 14)", x.bag(0, 14), 2);
-        lots(x, 5, 7, 6, 7);
-        silo(x, 0, 0);
+        DUE.lots(x, 5, 7, 6, 7);
+        DUE.silo(x, 0, 0);
     }
 
     private static void aBagOfAPartOfALot() {
         DUE.by("in part if need be");
         KilnLine x = unburnt(2, 7);
         DUE.is("bag(0, 6)", x.bag(0, 6), 1);
-        lots(x, 4, 6);
-        silo(x, 8, 2);
+        DUE.lots(x, 4, 6);
+        DUE.silo(x, 8, 2);
         DUE.is("bag(0, 1): the rest of it", x.bag(0, 1), 1);
-        lots(x, 4, 1);
-        silo(x, 7, 1);
+        DUE.lots(x, 4, 1);
+        DUE.silo(x, 7, 1);
     }
 
     private static void aBagOfALotAndATon() {
         DUE.by("in part if need be");
         KilnLine x = unburnt(2, 7);
         DUE.is("bag(0, 8)", x.bag(0, 8), 2);
-        lots(x, 4, 7, 5, 1);
-        silo(x, 6, 1);
+        DUE.lots(x, 4, 7, 5, 1);
+        DUE.silo(x, 6, 1);
         DUE.is("bag(0, 6)", x.bag(0, 6), 1);
-        lots(x, 5, 6);
-        silo(x, 0, 0);
+        DUE.lots(x, 5, 6);
+        DUE.silo(x, 0, 0);
     }
 
     private static void aBagOfManyLots() {
@@ -156,13 +142,13 @@ public final class SiloBoundsTest {
         DUE.is("lot(479, 0)", x.lot(479, 0), 483);
         DUE.is("lot(479, 1)", x.lot(479, 1), 1);
         DUE.is("lot(480, 0)", x.lot(480, 0), KilnLine.NONE);
-        silo(x, 0, 0);
+        DUE.silo(x, 0, 0);
     }
 
     private static void whatIsTakenStaysTold() {
         DUE.by("what is taken of each LOT stays told");
         KilnLine x = Busy.line();
-        lots(x, 4, 5, 5, 1);
+        DUE.lots(x, 4, 5, 5, 1);
         x.bag(0, 7);
         x.bag(0, 0);
         x.bag(3, 1);
@@ -170,18 +156,18 @@ public final class SiloBoundsTest {
         x.step(5, 0, 100);
         x.start();
         x.clear();
-        lots(x, 4, 5, 5, 1);
+        DUE.lots(x, 4, 5, 5, 1);
     }
 
     private static void lotsAreThoseOfTheLatestBag() {
         DUE.by("Of LOT i of the latest BAG");
         KilnLine x = Busy.line();
         DUE.is("bag(1, 3)", x.bag(1, 3), 2);
-        lots(x, 9, 2, 10, 1);
+        DUE.lots(x, 9, 2, 10, 1);
         DUE.is("bag(2, 1)", x.bag(2, 1), 1);
-        lots(x, 8, 1);
+        DUE.lots(x, 8, 1);
         DUE.is("bag(0, 1)", x.bag(0, 1), 1);
-        lots(x, 5, 1);
+        DUE.lots(x, 5, 1);
     }
 
     private static void lotTellsOfTwoNumbers() {

@@ -30,19 +30,19 @@ public final class SiloTest {
 
     private static void bagTakesTheEldestFirst() {
         KilnLine x = withFourLots();
-        silo(x, 923, 4);
+        DUE.silo(x, 923, 4);
         DUE.is("bag(0, 5)", x.bag(0, 5), 1);
-        lots(x, 4, 5);
-        silo(x, 918, 3);
+        DUE.lots(x, 4, 5);
+        DUE.silo(x, 918, 3);
         DUE.is("bag(0, 8)", x.bag(0, 8), 2);
-        lots(x, 5, 7, 7, 1);
-        silo(x, 910, 2);
+        DUE.lots(x, 5, 7, 7, 1);
+        DUE.silo(x, 910, 2);
         DUE.is("bag(0, 3)", x.bag(0, 3), 1);
-        lots(x, 7, 3);
-        silo(x, 907, 2);
+        DUE.lots(x, 7, 3);
+        DUE.silo(x, 907, 2);
         DUE.is("bag(0, 907)", x.bag(0, 907), 2);
-        lots(x, 7, 7, 8, 900);
-        silo(x, 0, 0);
+        DUE.lots(x, 7, 7, 8, 900);
+        DUE.silo(x, 0, 0);
         DUE.is("bag(0, 1)", x.bag(0, 1), KilnLine.STATE);
         DUE.is("silo(1, 0)", x.silo(1, 0), 0);
         DUE.is("silo(2, 1)", x.silo(2, 1), 0);
@@ -63,7 +63,7 @@ public final class SiloTest {
         DUE.is("silo(0, -1)", x.silo(0, -1), KilnLine.BAD);
         DUE.is("silo(0, 2)", x.silo(0, 2), KilnLine.BAD);
         DUE.is("lot(0, 0)", x.lot(0, 0), KilnLine.NONE);
-        silo(x, 923, 4);
+        DUE.silo(x, 923, 4);
         DUE.is("finding()", x.finding(), 0);
     }
 
@@ -72,9 +72,9 @@ public final class SiloTest {
         x.bag(0, 13);
         x.bag(0, 5000);
         x.bag(0, 0);
-        lots(x, 4, 5, 5, 7, 7, 1);
+        DUE.lots(x, 4, 5, 5, 7, 7, 1);
         x.step(0, 0, 100);
-        lots(x, 4, 5, 5, 7, 7, 1);
+        DUE.lots(x, 4, 5, 5, 7, 7, 1);
         DUE.is("lot(3, 0)", x.lot(3, 0), KilnLine.NONE);
         DUE.is("lot(3, 1)", x.lot(3, 1), KilnLine.NONE);
         DUE.is("lot(-1, 0)", x.lot(-1, 0), KilnLine.NONE);
@@ -84,7 +84,7 @@ public final class SiloTest {
         DUE.is("lot(0, -1)", x.lot(0, -1), KilnLine.BAD);
         DUE.is("lot(9, 2): BAD ahead of NONE", x.lot(9, 2), KilnLine.BAD);
         DUE.is("bag(0, 1)", x.bag(0, 1), 1);
-        lots(x, 7, 1);
+        DUE.lots(x, 7, 1);
     }
 
     private static void bagsMayBeLarge() {
@@ -92,10 +92,10 @@ public final class SiloTest {
         for (int i = 0; i < 15; i++) {
             x.step(1000, 0, 100);
         }
-        silo(x, 11000, 11);
+        DUE.silo(x, 11000, 11);
         DUE.is("bag(0, 10001)", x.bag(0, 10001), KilnLine.BAD);
         DUE.is("bag(0, 10000)", x.bag(0, 10000), 10);
-        silo(x, 1000, 1);
+        DUE.silo(x, 1000, 1);
         DUE.is("lot(9, 0)", x.lot(9, 0), 13);
     }
 
@@ -104,12 +104,12 @@ public final class SiloTest {
         for (int i = 0; i < 500; i++) {
             x.step(2, 0, 100);
         }
-        silo(x, 992, 496);
+        DUE.silo(x, 992, 496);
         DUE.is("bag(0, 991)", x.bag(0, 991), 496);
         DUE.is("lot(0, 0)", x.lot(0, 0), 4);
         DUE.is("lot(495, 0)", x.lot(495, 0), 499);
         DUE.is("lot(495, 1)", x.lot(495, 1), 1);
-        silo(x, 1, 1);
+        DUE.silo(x, 1, 1);
     }
 
     /** Queues of {STEP, tons} against runs of any steps and BAGS, with LOTS in all SILOS. */
@@ -180,18 +180,5 @@ public final class SiloTest {
             }
         }
         return drawn;
-    }
-
-    private static void silo(KilnLine x, int tons, int lots) {
-        DUE.is("silo(0, 0)", x.silo(0, 0), tons);
-        DUE.is("silo(0, 1)", x.silo(0, 1), lots);
-    }
-
-    private static void lots(KilnLine x, int... due) {
-        for (int i = 0; i < due.length / 2; i++) {
-            DUE.is("lot(" + i + ", 0)", x.lot(i, 0), due[2 * i]);
-            DUE.is("lot(" + i + ", 1)", x.lot(i, 1), due[2 * i + 1]);
-        }
-        DUE.is("lot behind the last", x.lot(due.length / 2, 0), KilnLine.NONE);
     }
 }
