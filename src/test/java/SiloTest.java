@@ -1,6 +1,3 @@
-import java.util.ArrayDeque;
-import java.util.ArrayList;
-import java.util.Deque;
 import java.util.List;
 import java.util.Random;
 
@@ -112,32 +109,25 @@ public final class SiloTest {
         DUE.silo(x, 1, 1);
     }
 
-    /** Queues of {STEP, tons} against runs of any steps and BAGS, with LOTS in all SILOS. */
+    /** Runs of any steps and BAGS, with LOTS in all SILOS. */
     private static void bagsAreAsDrawnFromQueues() {
         int[] bags = new int[3];
         for (int seed = 0; seed < 200; seed++) {
             Random random = new Random(seed);
             KilnLine x = new KilnLine();
-            List<Deque<int[]>> queues = new ArrayList<>();
-            for (int s = 0; s < 3; s++) {
-                queues.add(new ArrayDeque<>());
-            }
-            // A STEP with its BAG takes 7 calls and two for each LOT: nothing is promised behind 512 calls.
+            PlainSilos plain = new PlainSilos();
+            // A STEP with its BAG takes 8 calls and two for each LOT: nothing is promised behind 512 calls.
             int calls = 0;
             for (int step = 0; calls < 450; step++) {
                 x.start();
                 x.step(random.nextInt(100), random.nextInt(4) == 0 ? random.nextInt(40000) : 0, 20 + random.nextInt(60));
                 if (x.out(0) > 0) {
-                    queues.get(x.out(3)).add(new int[] {step, x.out(0)});
+                    plain.store(x.out(3), step, x.out(0));
                 }
                 int s = random.nextInt(3);
-                int n = 1 + random.nextInt(120);
-                int ahead = queues.get(s).size();
-                if (drawAndCompare(x, queues.get(s), s, n)) {
-                    bags[s]++;
-                    calls += 2 * (ahead - queues.get(s).size() + 1);
-                }
-                calls += 8;
+                int lots = bagAndCompare(x, plain, s, 1 + random.nextInt(120));
+                bags[s] += lots > 0 ? 1 : 0;
+                calls += 9 + 2 * lots;
             }
         }
         for (int s = 0; s < 3; s++) {
@@ -145,40 +135,21 @@ public final class SiloTest {
         }
     }
 
-    private static boolean drawAndCompare(KilnLine x, Deque<int[]> queue, int s, int n) {
-        int tons = 0;
-        for (int[] lot : queue) {
-            tons += lot[1];
-        }
-        DUE.is("silo(s, 0)", x.silo(s, 0), tons);
-        DUE.is("silo(s, 1)", x.silo(s, 1), queue.size());
-        if (tons < n) {
+    /** Answers of how many LOTS the BAG is; 0, if it is refused. */
+    private static int bagAndCompare(KilnLine x, PlainSilos plain, int s, int n) {
+        DUE.is("silo(s, 0)", x.silo(s, 0), plain.tons(s));
+        DUE.is("silo(s, 1)", x.silo(s, 1), plain.lots(s));
+        if (plain.tons(s) < n) {
             DUE.is("bag(s, n)", x.bag(s, n), KilnLine.STATE);
-            return false;
+            return 0;
         }
-        List<int[]> drawn = draw(queue, n);
-        DUE.is("bag(s, n)", x.bag(s, n), drawn.size());
-        for (int i = 0; i < drawn.size(); i++) {
-            DUE.is("lot(i, 0)", x.lot(i, 0), drawn.get(i)[0]);
-            DUE.is("lot(i, 1)", x.lot(i, 1), drawn.get(i)[1]);
+        List<int[]> taken = plain.bag(s, n);
+        DUE.is("bag(s, n)", x.bag(s, n), taken.size());
+        for (int i = 0; i < taken.size(); i++) {
+            DUE.is("lot(i, 0)", x.lot(i, 0), taken.get(i)[0]);
+            DUE.is("lot(i, 1)", x.lot(i, 1), taken.get(i)[1]);
         }
-        DUE.is("lot(behind the last, 0)", x.lot(drawn.size(), 0), KilnLine.NONE);
-        return true;
-    }
-
-    private static List<int[]> draw(Deque<int[]> queue, int n) {
-        List<int[]> drawn = new ArrayList<>();
-        int lacking = n;
-        while (lacking > 0) {
-            int[] lot = queue.peek();
-            int taken = Math.min(lacking, lot[1]);
-            drawn.add(new int[] {lot[0], taken});
-            lot[1] -= taken;
-            lacking -= taken;
-            if (lot[1] == 0) {
-                queue.remove();
-            }
-        }
-        return drawn;
+        DUE.is("lot(behind the last, 0)", x.lot(taken.size(), 0), KilnLine.NONE);
+        return taken.size();
     }
 }
